@@ -63,17 +63,17 @@ public final class SlabWalk {
     private static final int EATEN = 0;
     private static final int THROUGH = 2;
 
+    private Paving paving = new Paving();
+    private Paving spare = new Paving();
     private final byte[] tape = new byte[MOST_BYTES];
-    private final Reader reader = new Reader();
-    private final Lines lines = new Lines();
+    private final Reader reader = new Reader(tape, spare);
+    private final Lines lines = new Lines(paving);
     private final Course course = new Course();
     private final Trails trails = new Trails();
     private final Odds odds = new Odds();
     private final Earnest earnest = new Earnest();
     private final Sights sights = new Sights();
     private final int[] lying = new int[MOST_INCHES];
-    private Paving paving = new Paving();
-    private Paving spare = new Paving();
     private int taped;
     private int lie;
 
@@ -102,7 +102,7 @@ public final class SlabWalk {
     }
 
     public int pavement() {
-        boolean good = reader.read(tape, taped, spare);
+        boolean good = reader.read(taped, spare);
         taped = 0;
         if (!good) {
             return NONE;
@@ -286,7 +286,8 @@ public final class SlabWalk {
         if (!canAsk(walker, street, rules) || what < 0 || what > 1) {
             return NONE;
         }
-        int winning = winningRule(walker, street, rules);
+        prepare(walker, street, rules);
+        int winning = winningRule(street, rules);
         return what == 1 ? winning : winning == NONE ? 0 : 1;
     }
 
@@ -294,9 +295,10 @@ public final class SlabWalk {
         if (!canAsk(walker, street, 0)) {
             return NONE;
         }
+        prepare(walker, street, 0);
         int sets = 0;
         for (int rules = 0; rules < 1 << paving.rules; rules++) {
-            sets += leavesWay(walker, street, rules) ? 1 : 0;
+            sets += leavesWay(street, rules) ? 1 : 0;
         }
         return sets;
     }
@@ -529,18 +531,19 @@ public final class SlabWalk {
         course.findLawful(lines, street, rules);
     }
 
-    private boolean leavesWay(int walker, int street, int rules) {
-        prepare(walker, street, rules);
+    /** By another set of RULES than the one that was prepared. */
+    private boolean leavesWay(int street, int rules) {
+        course.findLawful(lines, street, rules);
         return trails.isThereWay(course);
     }
 
     /** The first RULE by which who is to add one to the set wins, or NONE. */
-    private int winningRule(int walker, int street, int rules) {
+    private int winningRule(int street, int rules) {
         int all = (1 << paving.rules) - 1;
         for (int set = all; set >= rules; set--) {
             if ((set & rules) == rules) {
                 trails.winning[set] = trails.winningFrom(set, all);
-                trails.leaving[set] = leavesWay(walker, street, set);
+                trails.leaving[set] = leavesWay(street, set);
             }
         }
         return trails.winning[rules];
@@ -686,7 +689,7 @@ public final class SlabWalk {
 
     /** Cuts the text into TOKENS, of which it knows the one at hand, and keeps the first FAULT. */
     private static final class Tokens {
-        private byte[] text;
+        private final byte[] text;
         private int size;
         private int at;
         int kind;
@@ -696,9 +699,12 @@ public final class SlabWalk {
         int fault;
         int faultPlace = NONE;
 
-        void open(byte[] bytes, int length) {
+        Tokens(byte[] bytes) {
             text = bytes;
-            size = Math.min(length, bytes.length);
+        }
+
+        void open(int length) {
+            size = Math.min(length, text.length);
             at = 0;
             fault = 0;
             faultPlace = NONE;
@@ -758,7 +764,7 @@ public final class SlabWalk {
         private int kindOfWord() {
             for (int from = 0; from + WORD_WIDTH <= WORDS.length(); from += WORD_WIDTH) {
                 int same = 0;
-                while (same < WORD_WIDTH && letterOr(place + same) == WORDS.charAt(from + same)) {
+                while (same < WORD_WIDTH && WORDS.charAt(from + same) == (place + same < at ? text[place + same] : ' ')) {
                     same++;
                 }
                 if (same == WORD_WIDTH) {
@@ -766,11 +772,6 @@ public final class SlabWalk {
                 }
             }
             return NAME;
-        }
-
-        /** Of the word that was cut, and blanks behind it. */
-        private int letterOr(int i) {
-            return i < at ? text[i] : ' ';
         }
 
         private void cutNumber() {
@@ -785,8 +786,8 @@ public final class SlabWalk {
 
     /** Reads a PAVEMENT's lines. */
     private static final class Reader {
-        final Tokens tokens = new Tokens();
-        private final Formulas formulas = new Formulas();
+        final Tokens tokens;
+        private final Formulas formulas;
         private final long[] streetNames = new long[MOST_STREETS];
         private final long[] walkerNames = new long[MOST_WALKERS];
         private final long[] ruleNames = new long[MOST_RULES];
@@ -796,13 +797,19 @@ public final class SlabWalk {
         private boolean drawTold;
         private int number;
 
-        boolean read(byte[] text, int size, Paving target) {
+        Reader(byte[] text, Paving target) {
+            tokens = new Tokens(text);
+            formulas = new Formulas(tokens, target);
+            paving = target;
+        }
+
+        boolean read(int size, Paving target) {
             paving = target;
             paving.empty();
             slipTold = false;
             handTold = false;
             drawTold = false;
-            tokens.open(text, size);
+            tokens.open(size);
             boolean good = true;
             for (int count = 0; good && count < MOST_BYTES && tokens.kind != TEXT_END; count++) {
                 switch (tokens.kind) {
@@ -923,7 +930,7 @@ public final class SlabWalk {
                 return false;
             }
             paving.codeEnd[paving.rules] = paving.coded;
-            if (!formulas.read(tokens, paving)) {
+            if (!formulas.read(paving)) {
                 return false;
             }
             paving.rules++;
@@ -976,12 +983,16 @@ public final class SlabWalk {
         private static final int MOST_UNITS_IN_ONE = 30;
         private static final int MOST_DEPTH = 6;
 
-        private Tokens tokens;
+        private final Tokens tokens;
         private Paving paving;
         private int units;
 
-        boolean read(Tokens text, Paving target) {
+        Formulas(Tokens text, Paving target) {
             tokens = text;
+            paving = target;
+        }
+
+        boolean read(Paving target) {
             paving = target;
             units = 0;
             return passEither(0);
@@ -1106,7 +1117,10 @@ public final class SlabWalk {
                 return tokens.refuse(OUT_OF_PLACE);
             }
             tokens.advance();
-            return passEither(depth + 1) && tokens.pass(')');
+            if (!passEither(depth + 1)) {
+                return false;
+            }
+            return tokens.kind == ')' ? tokens.advance() : tokens.refuse(OUT_OF_PLACE);
         }
     }
 
@@ -1123,6 +1137,10 @@ public final class SlabWalk {
         private final int[] values = new int[MOST_VALUES];
         private int top;
         private Paving paving;
+
+        Lines(Paving looked) {
+            paving = looked;
+        }
 
         void lookAt(Paving looked) {
             paving = looked;
