@@ -109,11 +109,13 @@ public final class TextTest {
         good("rule r 1+2*3;rule s(1)<(2);", 0, 0, 2);
         good("rule r not(1)and(2)or(3);", 0, 0, 1);
         bad("streeta joint 1 5;", 2, 0);
+        good("rule a 1;rule aa 1;rule aaaaaaaa 1;rule aaaaaaab 1;rule baaaaaaa 1;rule zzzzzzzz 1;", 0, 0, 6);
+        bad("rule zzzzzzzy 1;rule zzzzzzzz 1;rule zzzzzzzy 1;", 3, 37);
         for (String word : ("street joint walker foot step to leap rule slip hand slack draw red broken drain shade"
             + " or and not long nth inch day").split(" ")) {
             bad("rule " + word + " 1;", 2, 5);
         }
-        for (String word : "pavement line slab e both one sum term unit name n rain text".split(" ")) {
+        for (String word : "pavement line slab e both one sum term unit name n rain text bed reds re cot fay brokens oor".split(" ")) {
             good("rule " + word + " 1;", 0, 0, 1);
         }
     }
