@@ -119,18 +119,18 @@ public final class SlabWalk {
     }
 
     public int inch(int street, int x, int what) {
-        if (!isInch(street, x) || what < 0 || what > 4) {
+        if (!paving.hasInch(street, x) || what < 0 || what > 4) {
             return NONE;
         }
         return Paving.part(paving.inchAt(street, x), what);
     }
 
     public int length(int street) {
-        return hasStreet(street) ? paving.length[street] : NONE;
+        return paving.hasStreet(street) ? paving.length[street] : NONE;
     }
 
     public int line(int street, int rules, int x) {
-        if (!isInch(street, x) || !isSet(rules)) {
+        if (!paving.hasInch(street, x) || !paving.hasSet(rules)) {
             return NONE;
         }
         lines.findFor(street, today());
@@ -138,7 +138,7 @@ public final class SlabWalk {
     }
 
     public int gap(int street, int rules, int what) {
-        if (!hasStreet(street) || !isSet(rules)) {
+        if (!paving.hasStreet(street) || !paving.hasSet(rules)) {
             return NONE;
         }
         lines.findFor(street, today());
@@ -159,7 +159,7 @@ public final class SlabWalk {
     }
 
     public int foot(int walker, int street, int rules, int x) {
-        if (!canAsk(walker, street, rules) || !isInch(street, x)) {
+        if (!canAsk(walker, street, rules) || !paving.hasInch(street, x)) {
             return NONE;
         }
         lines.findFor(street, today());
@@ -197,7 +197,7 @@ public final class SlabWalk {
     }
 
     public int even(int walker, int street, int rules, int x, int by) {
-        if (!canAsk(walker, street, rules) || !isInch(street, x) || by < 1 || by > MOST_LEAP) {
+        if (!canAsk(walker, street, rules) || !paving.hasInch(street, x) || by < 1 || by > MOST_LEAP) {
             return NONE;
         }
         prepare(walker, street, rules);
@@ -304,7 +304,7 @@ public final class SlabWalk {
     }
 
     public int walk(int walker, int street, int x) {
-        if (!standsOn(walker, street, x) || x >= paving.most[walker]) {
+        if (!paving.stands(walker, street, x) || x >= paving.most[walker]) {
             return NONE;
         }
         earnest.setOut(walker, street, x);
@@ -324,7 +324,7 @@ public final class SlabWalk {
         earnest.drawSeed();
         int heel = now[Earnest.HEEL] + by + paving.slipBy(now[Earnest.SEED]);
         now[Earnest.LEAPT] = by > paving.most[walker] ? 1 : 0;
-        if (standsOn(walker, now[Earnest.WHERE], heel)) {
+        if (paving.stands(walker, now[Earnest.WHERE], heel)) {
             now[Earnest.HEEL] = heel;
             now[Earnest.FEET]++;
             now[Earnest.HOW] = isLawfulNow() ? UP : EATEN;
@@ -336,7 +336,7 @@ public final class SlabWalk {
     }
 
     public int force(int rule) {
-        if (!hasRule(rule)) {
+        if (!paving.hasRule(rule)) {
             return NONE;
         }
         earnest.now[Earnest.FORCE] ^= 1 << rule;
@@ -379,7 +379,7 @@ public final class SlabWalk {
     }
 
     public int sight(int walker, int street, int x) {
-        return standsOn(walker, street, x) ? sights.tell(walker, street, x) : NONE;
+        return paving.stands(walker, street, x) ? sights.tell(walker, street, x) : NONE;
     }
 
     public boolean untell(int sight) {
@@ -403,7 +403,7 @@ public final class SlabWalk {
     }
 
     public long chance(int rule, int part, int k) {
-        if (!hasRule(rule) || part < 0 || part > 1) {
+        if (!paving.hasRule(rule) || part < 0 || part > 1) {
             return NONE;
         }
         long upper = 1;
@@ -475,41 +475,17 @@ public final class SlabWalk {
         return earnest.now[Earnest.TODAY];
     }
 
-    private boolean hasStreet(int street) {
-        return street >= 0 && street < paving.streets;
-    }
-
-    private boolean hasWalker(int walker) {
-        return walker >= 0 && walker < paving.walkers;
-    }
-
-    private boolean hasRule(int rule) {
-        return rule >= 0 && rule < paving.rules;
-    }
-
-    private boolean isSet(int rules) {
-        return rules >= 0 && rules < 1 << paving.rules;
-    }
-
-    private boolean isInch(int street, int x) {
-        return hasStreet(street) && x >= 0 && x < paving.length[street];
-    }
-
     private boolean canAsk(int walker, int street, int rules) {
-        return hasWalker(walker) && hasStreet(street) && isSet(rules);
-    }
-
-    private boolean standsOn(int walker, int street, int x) {
-        return hasWalker(walker) && isInch(street, x) && paving.stands(walker, street, x);
+        return paving.hasWalker(walker) && paving.hasStreet(street) && paving.hasSet(rules);
     }
 
     private boolean canBeBrave(int walker, int street, int rules, int x, int n) {
-        return canAsk(walker, street, rules) && standsOn(walker, street, x) && n >= 1 && n <= MOST_BRAVE_STEPS;
+        return canAsk(walker, street, rules) && paving.stands(walker, street, x) && n >= 1 && n <= MOST_BRAVE_STEPS;
     }
 
     private boolean canGo(int by) {
         int walker = earnest.now[Earnest.WHO];
-        if (!hasWalker(walker) || earnest.now[Earnest.HOW] != UP || by < paving.least[walker]) {
+        if (!paving.hasWalker(walker) || earnest.now[Earnest.HOW] != UP || by < paving.least[walker]) {
             return false;
         }
         boolean leapt = earnest.now[Earnest.LEAPT] == 1;
@@ -568,7 +544,7 @@ public final class SlabWalk {
     private int heelsNear(int sight, int rule, boolean lawful) {
         int heels = 0;
         for (int away = -3; away <= 3; away++) {
-            if (standsOn(sights.walker[sight], sights.street[sight], sights.heel[sight] + away)
+            if (paving.stands(sights.walker[sight], sights.street[sight], sights.heel[sight] + away)
                 && (!lawful || isLawfulSight(sight, rule, away))) {
                 heels++;
             }
@@ -642,7 +618,7 @@ public final class SlabWalk {
         }
 
         int inchAt(int street, int x) {
-            return inches[street * MOST_INCHES + x];
+            return hasInch(street, x) ? inches[street * MOST_INCHES + x] : 0;
         }
 
         /** Of an INCH 0: joint, 1: nth, 2: inch, 3: long, 4: the SLAB's words as bits. */
@@ -658,6 +634,9 @@ public final class SlabWalk {
 
         /** Lays a SLAB, or a joint, behind the INCHES of the STREET that is being told. */
         void lay(int joint, int words, int nth, int wide) {
+            if (streets >= MOST_STREETS) {
+                return;
+            }
             int from = length[streets];
             for (int inch = 0; inch < wide && from + inch < MOST_INCHES; inch++) {
                 inches[streets * MOST_INCHES + from + inch] = joint | words << 1 | nth << 5 | inch << 14 | wide << 20;
@@ -671,8 +650,28 @@ public final class SlabWalk {
             }
         }
 
+        boolean hasStreet(int street) {
+            return street >= 0 && street < streets && street < MOST_STREETS;
+        }
+
+        boolean hasWalker(int walker) {
+            return walker >= 0 && walker < walkers && walker < MOST_WALKERS;
+        }
+
+        boolean hasRule(int rule) {
+            return rule >= 0 && rule < rules && rule < MOST_RULES;
+        }
+
+        boolean hasSet(int set) {
+            return set >= 0 && set < 1 << rules;
+        }
+
+        boolean hasInch(int street, int x) {
+            return hasStreet(street) && x >= 0 && x < length[street];
+        }
+
         boolean stands(int walker, int street, int heel) {
-            return heel >= 0 && heel <= length[street] - foot[walker];
+            return hasWalker(walker) && hasStreet(street) && heel >= 0 && heel <= length[street] - foot[walker];
         }
 
         int allSlips() {
@@ -1148,13 +1147,13 @@ public final class SlabWalk {
         }
 
         void findFor(int street, int day) {
-            if (foundOn[street] == day) {
+            if (!paving.hasStreet(street) || foundOn[street] == day) {
                 return;
             }
             for (int x = 0; x < paving.length[street]; x++) {
                 int inch = paving.inchAt(street, x);
                 int bits = (inch & FORBIDDEN) != 0 ? EMPTY_SET : 0;
-                for (int rule = 0; rule < paving.rules; rule++) {
+                for (int rule = 0; rule < paving.rules && rule < MOST_RULES; rule++) {
                     bits |= valueOf(rule, inch, day) != 0 ? 1 << rule : 0;
                 }
                 found[street * MOST_INCHES + x] = bits;
@@ -1164,7 +1163,7 @@ public final class SlabWalk {
 
         /** Behind findFor, as isLawful. */
         boolean isLine(int street, int rules, int x) {
-            return (found[street * MOST_INCHES + x] & (rules == 0 ? EMPTY_SET : rules)) != 0;
+            return paving.hasInch(street, x) && (found[street * MOST_INCHES + x] & (rules == 0 ? EMPTY_SET : rules)) != 0;
         }
 
         boolean isLawful(int walker, int street, int rules, int heel) {
@@ -1476,7 +1475,7 @@ public final class SlabWalk {
 
         /** The first RULE that wins from a set, by what is known of the sets that have one more. */
         int winningFrom(int set, int all) {
-            for (int rule = 0; 1 << rule <= all; rule++) {
+            for (int rule = 0; rule < MOST_RULES && 1 << rule <= all; rule++) {
                 int more = set | 1 << rule;
                 if (more != set && leaving[more] && winning[more] == NONE) {
                     return rule;

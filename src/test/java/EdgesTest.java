@@ -154,6 +154,27 @@ public final class EdgesTest {
         Due.due("day 1", x.line(0, 32, 0), 1);
         // 30 units, all joined last by the brackets in them.
         is("1+(1+(1+(1+(1+(1+(1+(1+1+1+1+1+1+1+1+1+1+1+1+1)))))))=20");
+        manyNots();
+    }
+
+    /** As many nots as a text has room for, in RULES of which the last one has to be read whole, too. */
+    private static void manyNots() {
+        String nots = "not not not not not not not ";
+        String rule = nots + "0" + (" and " + nots + "0").repeat(22);
+        String text = "street a joint 0 5;rule a " + rule + ";rule b " + rule.substring(0, rule.length() - 1) + "1;";
+        Due.due("bytes left", text.length() <= 1600 && text.length() > 1560, true);
+        SlabWalk x = Due.on(text);
+        Due.due("all are 1", x.line(0, 1, 4), 1);
+        Due.due("all but the last", x.line(0, 2, 4), 0);
+        // 90 units in a row, each with its sign.
+        String sum = "inch" + "+inch".repeat(28) + "-";
+        x = Due.on("street a joint 0 5;rule a " + sum + "29;rule b " + sum + "58;rule c " + sum + "116;");
+        int[] due = {7, 6, 5, 7, 3};
+        for (int i = 0; i < 5; i++) {
+            for (int r = 0; r < 3; r++) {
+                Due.due("29 inches at " + i, x.line(0, 1 << r, i), due[i] >> r & 1);
+            }
+        }
     }
 
     private static void is(String formula) {

@@ -15,6 +15,7 @@ public final class TextEdgesTest {
         unitsAndBrackets();
         firstOfTwoFaults();
         whatIsNotTold();
+        toldBefore();
         cutTexts();
         changedTexts();
         textsByChance();
@@ -202,6 +203,10 @@ public final class TextEdgesTest {
         is("walker a foot 1 step 1 to 1;walker a", 3, 35);
         is("rule a 1;rule a", 3, 14);
         is("rule a 1;rule b 1;rule c 1;rule d 1;rule e 1;rule e 1;", 3, 50);
+        // NAMES that are nearly alike are not.
+        good("rule q 1;rule aq 1;rule aa 1;rule ca 1;rule qa 1;rule ac 1;");
+        good("rule aaaaaaaa 1;rule aaaaaaa 1;rule baaaaaaa 1;rule aaaaaaab 1;rule qaaaaaaa 1;rule aaaaaaaq 1;");
+        good("street ab joint 0 5;street ba joint 0 5;street b joint 0 5;walker ab foot 1 step 1 to 1;walker ba foot 1 step 1 to 1;");
         for (String word : new String[] {"red", "broken", "drain", "shade"}) {
             is("street a joint 0 5 " + word + " " + word + ";", 2, 20 + word.length());
             good("street a joint 0 5 " + word + " 5 " + word + ";");
@@ -299,6 +304,38 @@ public final class TextEdgesTest {
         // From 10 by 20 he comes to 30 and 50, which is the last HEEL that is near enough; by 19 to 48 at most.
         Due.due("slack 10", Due.on("street a joint 0 60;walker w foot 1 step 20 to 20;").keeps(0, 0, 0), 0);
         Due.due("slack 10", Due.on("street a joint 0 60;walker w foot 1 step 19 to 19;").keeps(0, 0, 0), -1);
+    }
+
+    /** Whatever was told before, good or not: what a text does not tell is as in an empty one. */
+    private static void toldBefore() {
+        String[] before = {"slip 7 8 9;hand 99 slack 99;draw 777;rule r 1+1;street a joint 1 5 red;walker w foot 1 step 1 to 2 leap 9;",
+            "slip 7 8 9;hand 99 slack 0;draw 777;rule r 1+1;street a joint 1 5 red;walker w foot 1 step 1 to 2 leap 9;?", "slip 5 5"};
+        for (String first : before) {
+            for (String second : before) {
+                SlabWalk x = new SlabWalk();
+                for (int i = 0; i < 3; i++) {
+                    Due.feed(x, first);
+                    x.pavement();
+                    Due.feed(x, second);
+                    x.pavement();
+                    Due.feed(x, "street a joint 0 60;walker v foot 1 step 20 to 20;walker w foot 1 step 19 to 19;");
+                    Due.due("a text that is good", x.pavement(), 1);
+                    int[] about = {1, 2, 0, 0, 0, 0, 0, 0, 0, 0, 0, 0, 0, 0, 1};
+                    for (int what = 0; what < about.length; what++) {
+                        Due.due("told before, about(" + what + ")", x.about(what), about[what]);
+                    }
+                    Due.due("not red", x.inch(0, 0, 4), 0);
+                    Due.due("the hand, the slack", x.keeps(0, 0, 0), 0);
+                    Due.due("the hand, the slack", x.keeps(1, 0, 0), -1);
+                    Due.due("no RULE", x.line(0, 1, 0), -1);
+                    x.walk(0, 0, 0);
+                    Due.due("no slip", x.go(20) + x.walker(2), 21);
+                    Due.due("no leap", x.go(21), -1);
+                    Due.due("an empty text", x.pavement(), 0);
+                    Due.due("its slips", x.about(14), 1);
+                }
+            }
+        }
     }
 
     private static final String ALL = "street abc joint 2 5 red 60 broken drain 3;\nstreet b joint 0 7 shade;walker w foot 3 step 2 to 8 leap 11;"
