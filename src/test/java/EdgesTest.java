@@ -514,6 +514,13 @@ public final class EdgesTest {
         Due.due("never short", Due.on("street a joint 0 1 1 broken;walker w foot 1 step 1 to 1;slip 0 9 0;").brave(0, 0, 0, 0, 8), 0);
         Due.due("always long", Due.on("street a joint 0 1 1 broken;walker w foot 1 step 1 to 1;slip 0 0 9;").brave(0, 0, 0, 0, 8), pow(9, 8));
         Due.due("27 to the 8", Due.on(BARE + "walker w foot 12 step 1 to 60;slip 9 9 9;").brave(0, 0, 0, 0, 8), pow(27, 8));
+        // The first step is told without its odds being asked, and not by what was asked before.
+        x = Due.on("street a joint 0 60 60 broken;street b joint 0 20;walker w foot 1 step 1 to 60;walker v foot 1 step 7 to 9;rule r not(inch=0 or inch=5);");
+        Due.due("onto the one INCH", x.boldest(0, 0, 1, 0, 1), 5);
+        Due.due("on bare INCHES", x.boldest(0, 0, 0, 0, 1), 1);
+        Due.due("another WALKER", x.boldest(1, 0, 0, 0, 1), 7);
+        Due.due("from another HEEL", x.boldest(0, 0, 0, 59, 1), 1);
+        Due.due("another STREET", x.boldest(0, 1, 1, 5, 1), 15);
         x = Due.on("street a joint 0 60 60 broken;walker w foot 12 step 1 to 60 leap 99;");
         Due.due("a LEAP is no step", x.brave(0, 0, 0, 0, 1), 1);
         Due.due("a LEAP is no step", x.brave(0, 0, 0, 48, 1), 0);

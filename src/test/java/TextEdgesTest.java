@@ -16,6 +16,7 @@ public final class TextEdgesTest {
         firstOfTwoFaults();
         whatIsNotTold();
         toldBefore();
+        toldAgain();
         cutTexts();
         changedTexts();
         textsByChance();
@@ -334,6 +335,30 @@ public final class TextEdgesTest {
                     Due.due("an empty text", x.pavement(), 0);
                     Due.due("its slips", x.about(14), 1);
                 }
+            }
+        }
+    }
+
+    /** A text that was told can be told again, however often, and its RULES are read whole each time. */
+    private static void toldAgain() {
+        String once = "slip 1 8 2;hand 6 slack 4;draw 77;";
+        SlabWalk x = new SlabWalk();
+        for (int i = 0; i < 40; i++) {
+            Due.feed(x, i % 3 == 2 ? once + once : once);
+            Due.due("told again " + i, x.pavement(), i % 3 == 2 ? -1 : 0);
+            Due.due("fault(0)", x.fault(0), i % 3 == 2 ? 2 : 0);
+            Due.due("fault(1)", x.fault(1), i % 3 == 2 ? once.length() : -1);
+            Due.due("slips", x.about(14), 11);
+            Due.due("SEED", x.about(4), 77);
+        }
+        x = new SlabWalk();
+        for (int i = 0; i < 20; i++) {
+            String sum = "1" + "-1+1".repeat(14) + "-";
+            Due.feed(x, "street a joint 0 5;rule a " + sum + "1;rule b " + sum + "0;rule c " + sum + "1;");
+            Due.due("90 units again", x.pavement(), 1);
+            Due.due("90 units again", x.about(12), 90);
+            for (int rule = 0; rule < 3; rule++) {
+                Due.due("RULE " + rule + " of 30 units again " + i, x.line(0, 1 << rule, 4), rule == 1 ? 1 : 0);
             }
         }
     }
