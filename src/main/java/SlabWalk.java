@@ -1561,11 +1561,14 @@ public final class SlabWalk {
             return aims[Math.min(heel + step, course.last + 2)];
         }
 
+        /** The least of the steps that are worth most. */
         private int bestStep(Course course, int heel) {
             int best = course.least;
-            for (int step = course.least + 1; step <= course.most; step++) {
-                if (aimFrom(course, heel, step) > aimFrom(course, heel, best)) {
+            long worth = aimFrom(course, heel, best);
+            for (int step = best + 1; step <= course.most && heel + step <= course.last + 2; step++) {
+                if (aims[heel + step] > worth) {
                     best = step;
+                    worth = aims[heel + step];
                 }
             }
             return best;
