@@ -544,6 +544,22 @@ public final class EdgesTest {
         Due.due("all are added", x.wager(0, 0, 63, 1), -1);
         Due.due("no WAY by the set already", x.wager(0, 0, 1, 0), 0);
         Due.due("sets that leave a WAY", x.leave(0, 0), 8);
+        // What was asked of more RULES, or of others, is not remembered.
+        SlabWalk y = new SlabWalk();
+        for (int rules = 6; rules >= 0; rules--) {
+            for (int harm = 1; harm >= 0; harm--) {
+                StringBuilder text = new StringBuilder("street a joint 0 9;walker w foot 1 step 1 to 2;");
+                for (int i = 0; i < rules; i++) {
+                    text.append("rule r").append((char) ('a' + i)).append(' ').append(harm).append(';');
+                }
+                Due.feed(y, text.toString());
+                Due.due("pavement()", y.pavement(), 1);
+                Due.due("wager on " + rules + " of " + harm, y.wager(0, 0, 0, 0), harm == 0 ? rules % 2 : 0);
+                Due.due("its first on " + rules + " of " + harm, y.wager(0, 0, 0, 1), harm == 0 && rules % 2 == 1 ? 0 : -1);
+                Due.due("from one on " + rules, y.wager(0, 0, 1, 0), rules == 0 ? -1 : harm == 0 ? (rules - 1) % 2 : 0);
+                Due.due("leave on " + rules + " of " + harm, y.leave(0, 0), harm == 0 ? 1 << rules : 1);
+            }
+        }
         Due.due("of the empty set's LINES none counts by another", Due.on("street a joint 0 9 broken;walker w foot 1 step 1 to 2;rule a 0;").leave(0, 0), 1);
         Due.due("the last RULE wins", Due.on("street a joint 0 9;walker w foot 1 step 1 to 2;rule a 1;rule b 1;rule c 1;rule d 1;rule e 1;rule f 0;")
             .wager(0, 0, 0, 1), 5);
